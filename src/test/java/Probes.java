@@ -3,7 +3,7 @@ import java.util.List;
 
 /** Calls that together ask for everything that an object holds; the later ones change it for that. */
 final class Probes {
-    private static final int[] WEEK = new int[7];
+    private static final int DAYS_A_WEEK = 7;
 
     private Probes() {
     }
@@ -76,7 +76,7 @@ final class Probes {
 
     /** What only a change shows: links, tones, hush, melting, limits, prices, permits, plans and wants. */
     private static void addQuestionsThatChange(List<String> calls) {
-        for (int day = 0; day < WEEK.length; day++) {
+        for (int day = 0; day < DAYS_A_WEEK; day++) {
             calls.add("pass(15)");
             calls.add("sales()");
             calls.add("checksum()");
