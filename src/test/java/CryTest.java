@@ -87,5 +87,16 @@ public final class CryTest {
             "type(2) = 1; type(2) = 2; type(4) = 3; type(2) = 4; setCry(6) = 0",
             "freeCry(0) = throws.NoSuchElementException; hush(1, true) = false; freeCry(0) = 0; hush(1, false) = true",
             "hush(4, true) = false; freeCry(0) = 3410; freeCry(1) = throws.IndexOutOfBoundsException");
+        Script.run("promise 39: only the last one is free",
+            "place(0) = 0; 8 * vendor(0, 60, 1, 0) = 7",
+            "stock(0, 1) = 1; wipe() = 0; type(0) = 1; type(2) = 2; type(3) = 3; type(3) = 4; setCry(0) = 0",
+            "stock(1, 1) = 1; wipe() = 4; type(2) = 1; type(2) = 2; type(1) = 3; type(1) = 4; setCry(1) = 0",
+            "stock(2, 1) = 1; wipe() = 4; type(1) = 1; type(0) = 2; type(4) = 3; type(0) = 4; setCry(2) = 0",
+            "stock(3, 1) = 1; wipe() = 4; type(1) = 1; type(4) = 2; type(0) = 3; type(2) = 4; setCry(3) = 0",
+            "stock(4, 1) = 1; wipe() = 4; type(4) = 1; type(0) = 2; type(1) = 3; type(4) = 4; setCry(4) = 0",
+            "stock(5, 1) = 1; wipe() = 4; type(1) = 1; type(0) = 2; type(2) = 3; type(1) = 4; setCry(5) = 0",
+            "stock(6, 1) = 1; wipe() = 4; type(3) = 1; type(1) = 2; type(3) = 3; type(3) = 4; setCry(6) = 0",
+            "stock(7, 1) = 1; wipe() = 4; type(2) = 1; type(3) = 2; type(4) = 3; type(0) = 4; setCry(7) = 0",
+            "freeCry(0) = 4444; wipe() = 4; 4 * type(4) = 4; setCry(0) = 4; freeCry(0) = 104");
     }
 }

@@ -45,7 +45,9 @@ public final class ModelTest {
     }
 
     private void run() {
-        if (random.nextInt(5) > 0) {
+        if (seed % 10 == 0) {
+            fillStreet();
+        } else if (random.nextInt(5) > 0) {
             buildStreet();
         }
         int hours = random.nextInt(4) == 0 ? 60 : 3;
@@ -86,6 +88,35 @@ public final class ModelTest {
         }
         call("tape", random.nextInt(places));
         call("tape", random.nextInt(places));
+    }
+
+    /** As many of everything as there can be. */
+    private void fillStreet() {
+        for (int i = 0; i < 11; i++) {
+            call("place", random.nextInt(3));
+            call("link", i, i - 1, 1 + random.nextInt(3));
+        }
+        for (int i = 0; i < 9; i++) {
+            call("vendor", random.nextInt(6), 50 + random.nextInt(11), 1 + random.nextInt(20), random.nextInt(10));
+            call("stock", i, 99);
+            typeSome();
+            call("setCry", i);
+            for (int j = 0; j < 7; j++) {
+                call("permit", i, random.nextInt(10), 6 + random.nextInt(3), 9 + random.nextInt(12));
+            }
+        }
+        for (int i = 0; i < 13; i++) {
+            call("window", random.nextInt(10), random.nextInt(6));
+            for (int j = 0; j < 5; j++) {
+                call("want", i, random.nextInt(6), 127, 6, 20, 10 + random.nextInt(90));
+            }
+            call("tape", random.nextInt(10));
+        }
+        for (int i = 0; i < 10; i++) {
+            call("freeCry", i);
+            call("raid", i);
+            call("bestPlace", i);
+        }
     }
 
     private void typeSome() {

@@ -50,6 +50,8 @@ public final class StreetTest {
             "4 * place(0) = 3; far(2, 2) = 0; far(0, 3) = throws.NoSuchElementException; link(0, 1, 9) = 0",
             "link(0, 2, 2) = 0; link(2, 1, 3) = 0; far(0, 1) = 5; far(1, 0) = 5; link(1, 3, 4) = 0; far(3, 0) = 9",
             "link(2, 1, 9) = 3; far(0, 1) = 9; far(0, 3) = 13; far(2, 3) = 13; far(1, 1) = 0");
+        Script.run("promise 4: over the first place, and over the last one",
+            "4 * place(0) = 3; link(0, 1, 2) = 0; link(0, 2, 3) = 0; far(1, 2) = 5; link(1, 3, 1) = 0; link(2, 3, 1) = 0; far(1, 2) = 2");
         Script.run("promise 4: as far as it can be",
             "10 * place(0) = 9; link(8, 9, 9) = 0; link(6, 7, 9) = 0; link(4, 5, 9) = 0; link(2, 3, 9) = 0",
             "link(0, 1, 9) = 0; link(1, 2, 9) = 0; link(3, 4, 9) = 0; link(5, 6, 9) = 0",

@@ -66,6 +66,9 @@ public final class VendorTest {
             "goTo(0, 11, 3) = throws.UnsupportedOperationException; goTo(0, 11, 2) = throws.UnsupportedOperationException",
             "goTo(0, 13, 2) = 1; goTo(0, 12, 0) = throws.UnsupportedOperationException; at(0, 12) = 1; goTo(0, 14, 1) = 2",
             "goTo(0, 15, 0) = 1; goTo(0, 14, 2) = throws.UnsupportedOperationException; at(0, 14) = 1");
+        Script.run("promise 11: up to the next hour that is told only",
+            "3 * place(0) = 2; link(0, 1, 9) = 0; link(1, 2, 9) = 0; vendor(0, 50, 8, 0) = 0; goTo(0, 10, 1) = 0",
+            "goTo(0, 11, 2) = 1; goTo(0, 8, 0) = 0; at(0, 9) = 0; at(0, 10) = 1; at(0, 11) = 2; goTo(0, 10, 0) = throws.UnsupportedOperationException");
         Script.run("promise 11: all hours are looked at, by links as they are then",
             "3 * place(0) = 2; link(0, 1, 6) = 0; link(1, 2, 6) = 0; vendor(0, 50, 8, 0) = 0; goTo(0, 10, 2) = 0",
             "link(1, 2, 7) = 6; at(0, 10) = 2; goTo(0, 15, 2) = throws.UnsupportedOperationException",
@@ -156,7 +159,7 @@ public final class VendorTest {
         Script.run("promise 18: 200 at most, 30 less behind the last hour, and the voice below 0",
             "place(0) = 0; vendor(0, 10, 8, 0) = 0; 2 * type(1) = 2; setCry(0) = 0; stock(0, 99) = 99; 2 * pass(60) = 120",
             "pass(45) = 165; of(0, 't') = 165; pass(11) = 176; of(0, 't') = 198; of(0, 'v') = -39; pass(1) = 177; of(0, 't') = 200",
-            "of(0, 'v') = -40; pass(2) = 179; of(0, 't') = 200; strength(0, 0) = 0; pass(1) = 180; of(0, 't') = 170; of(0, 'v') = -32",
+            "of(0, 'v') = -40; isSound() = true; pass(2) = 179; of(0, 't') = 200; strength(0, 0) = 0; pass(1) = 180; of(0, 't') = 170; of(0, 'v') = -32",
             "hush(0, true) = false; pass(15) = 195; of(0, 't') = 140; 2 * pass(30) = 255; of(0, 't') = 20; pass(15) = 270",
             "of(0, 't') = 0; of(0, 'v') = 10; isSound() = true");
     }
