@@ -59,8 +59,15 @@ public final class FaceTest {
         "public double meanPrice() throws ArithmeticException",
         "public boolean isSound()"};
 
-    private static final String[] NOT_IN_THE_SOURCE = {"->", "::", "try ", "catch", "finally", "synchronized", "assert",
-        "instanceof", "static {", "protected", "package ", "System.out", "Exact(", "record ", " enum ", "float[", "double["};
+    /** Whatever LANGUAGE.md leaves may be there; an answer by catching what the machine throws may not. */
+    private static final String[] NOT_IN_THE_SOURCE = {"->", "::", "finally", "synchronized", "assert ", "static {",
+        "protected ", "package ", "System.out", "System.err", "System.exit", "currentTime", "nanoTime", "random",
+        "Thread", "java.io", "java.nio", "java.net", "Exact(", "ArrayIndexOutOfBounds", "StringIndexOutOfBounds",
+        "NullPointer", "NegativeArraySize", "ArrayStore", "ClassCast", "catch (Exception", "catch (Throwable",
+        "catch (RuntimeException"};
+
+    private static final Set<String> IMPORTS = Set.of("java.util.NoSuchElementException", "java.util.ArrayList",
+        "java.util.List", "java.util.Arrays", "java.util.Iterator");
 
     private static final int LONGEST_METHOD = 60;
 
@@ -127,8 +134,10 @@ public final class FaceTest {
         for (String word : NOT_IN_THE_SOURCE) {
             Script.due("LANGUAGE.md", "the source has " + word, "" + source.contains(word), "false");
         }
-        Script.due("rule 4", "imports", "" + source.split("import ", -1).length, "2");
-        Script.due("rule 4", "the import", "" + source.startsWith("import java.util.NoSuchElementException;"), "true");
+        for (String line : source.split("\n")) {
+            String wanted = line.startsWith("import ") ? line.substring("import ".length()).replace(";", "").trim() : null;
+            Script.due("rule 4", "an import: " + line, "" + (wanted == null || IMPORTS.contains(wanted)), "true");
+        }
         int begin = -1;
         String[] lines = source.split("\n");
         for (int i = 0; i < lines.length; i++) {

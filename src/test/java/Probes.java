@@ -1,119 +1,192 @@
 import java.util.ArrayList;
+import java.util.HashMap;
 import java.util.List;
+import java.util.Map;
 
 /** Calls that together ask for everything that an object holds; the later ones change it for that. */
 final class Probes {
     private static final int DAYS_A_WEEK = 7;
+    private static final int SALES_ASKED = 52;
 
-    private Probes() {
+    private static final Map<String, Probes> KNOWN = new HashMap<>();
+
+    private final int places;
+    private final int vendors;
+    private final int windows;
+    private final int tapes;
+    private final int sales;
+    private final List<String> calls = new ArrayList<>();
+    private final int firstThatChanges;
+
+    private Probes(int places, int vendors, int windows, int tapes, int sales) {
+        this.places = places;
+        this.vendors = vendors;
+        this.windows = windows;
+        this.tapes = tapes;
+        this.sales = sales;
+        addQuestions();
+        firstThatChanges = calls.size();
+        addQuestionsThatChange();
     }
 
-    static List<String> all() {
-        List<String> calls = new ArrayList<>();
-        addQuestions(calls);
-        addQuestionsThatChange(calls);
-        return calls;
-    }
-
-    /** Those that change nothing. */
-    static void addQuestions(List<String> calls) {
-        for (String call : "hour() day() sales() checksum() silentShare() meanPrice() isSound()".split(" ")) {
-            calls.add(call);
+    /** For an object that has seen these calls: what it has, and of everything one more. */
+    static Probes behind(List<String> past) {
+        Cryway street = new Cryway();
+        for (String call : past) {
+            Script.answer(street, call);
         }
-        for (int i = 0; i < 10; i++) {
-            calls.add("freeCry(" + i + ")");
-            for (int j = 0; j < 10; j++) {
-                calls.add("far(" + i + ", " + j + ")");
+        int[] counts = {many(past, "place("), many(past, "vendor("), many(past, "window("), many(past, "tape("), street.sales()};
+        String key = java.util.Arrays.toString(counts);
+        return KNOWN.computeIfAbsent(key, k -> new Probes(counts[0], counts[1], counts[2], counts[3], counts[4]));
+    }
+
+    int size() {
+        return calls.size();
+    }
+
+    String call(int i) {
+        return calls.get(i);
+    }
+
+    int firstThatChanges() {
+        return firstThatChanges;
+    }
+
+    private static int many(List<String> past, String begin) {
+        int many = 0;
+        for (String call : past) {
+            if (call.startsWith(begin)) {
+                many++;
             }
         }
-        for (int i = 0; i < 8; i++) {
-            addVendor(calls, i);
-        }
-        for (int i = 0; i < 12; i++) {
-            calls.add("fulfilled(" + i + ")");
-            for (int j = 0; j < 8; j++) {
-                calls.add("hears(" + i + ", " + j + ")");
-                calls.add("owes(" + i + ", " + j + ")");
-            }
-        }
-        addTapesAndSales(calls);
+        return many;
     }
 
-    private static void addVendor(List<String> calls, int vendor) {
-        calls.add("isSilent(" + vendor + ")");
-        calls.add("bestPlace(" + vendor + ")");
+    private void add(String name, Object... numbers) {
+        StringBuilder text = new StringBuilder(name).append('(');
+        for (int i = 0; i < numbers.length; i++) {
+            text.append(i == 0 ? "" : ", ").append(numbers[i]);
+        }
+        calls.add(text.append(')').toString());
+    }
+
+    private void addQuestions() {
+        for (String name : "hour day sales checksum silentShare meanPrice isSound".split(" ")) {
+            add(name);
+        }
+        for (int i = 0; i < places; i++) {
+            add("freeCry", i);
+            for (int j = 0; j < places; j++) {
+                add("far", i, j);
+            }
+        }
+        add("far", places, places);
+        for (int i = 0; i < vendors; i++) {
+            addVendor(i);
+        }
+        add("of", vendors, "'s'");
+        for (int i = 0; i < windows; i++) {
+            add("fulfilled", i);
+            for (int j = 0; j < vendors; j++) {
+                add("hears", i, j);
+                add("owes", i, j);
+            }
+        }
+        add("fulfilled", windows);
+        addTapesAndSales();
+    }
+
+    private void addVendor(int vendor) {
+        add("isSilent", vendor);
+        add("bestPlace", vendor);
         for (char what : "stvfew".toCharArray()) {
-            calls.add("of(" + vendor + ", '" + what + "')");
+            add("of", vendor, "'" + what + "'");
         }
-        for (int i = 0; i < 10; i++) {
-            calls.add("strength(" + vendor + ", " + i + ")");
+        for (int i = 0; i < places; i++) {
+            add("strength", vendor, i);
         }
-        for (int i = 0; i < 8; i++) {
-            calls.add("apart(" + vendor + ", " + i + ")");
+        for (int i = 0; i < vendors; i++) {
+            add("apart", vendor, i);
         }
-        for (int i = 6; i <= 20; i++) {
-            calls.add("at(" + vendor + ", " + i + ")");
+        for (int hour = 6; hour <= 20; hour++) {
+            add("at", vendor, hour);
         }
     }
 
-    private static void addTapesAndSales(List<String> calls) {
-        for (int i = 0; i < 6; i++) {
-            calls.add("length(" + i + ")");
-            calls.add("nearest(" + i + ")");
-            for (int j = 0; j < 6; j++) {
-                calls.add("differ(" + i + ", " + j + ")");
+    private void addTapesAndSales() {
+        for (int i = 0; i < tapes; i++) {
+            add("length", i);
+            add("nearest", i);
+            for (int j = 0; j < tapes; j++) {
+                add("differ", i, j);
             }
             for (int j = 0; j < 41; j++) {
-                calls.add("wareAt(" + i + ", " + j + ")");
+                add("wareAt", i, j);
             }
         }
-        for (int i = 0; i < 120; i++) {
+        add("length", tapes);
+        for (int i = Math.max(0, sales - SALES_ASKED); i <= sales; i++) {
             for (char what : "wvpdh".toCharArray()) {
-                calls.add("sale(" + i + ", '" + what + "')");
+                add("sale", i, "'" + what + "'");
             }
         }
     }
 
     /** What only a change shows: links, tones, hush, melting, limits, prices, permits, plans and wants. */
-    private static void addQuestionsThatChange(List<String> calls) {
+    private void addQuestionsThatChange() {
         for (int day = 0; day < DAYS_A_WEEK; day++) {
-            calls.add("pass(15)");
-            calls.add("sales()");
-            calls.add("checksum()");
+            add("pass", 15);
+            add("sales");
+            add("checksum");
         }
-        calls.add("wipe()");
-        calls.add("setWind(0)");
+        addTypedTones();
+        add("setWind", 0);
         for (int i = 0; i < 6; i++) {
-            calls.add("setMelting(" + i + ", false)");
-            calls.add("tape(0)");
+            add("setMelting", i, false);
         }
-        for (int i = 6; i <= 20; i++) {
-            calls.add("setLimit(" + i + ", 0)");
+        for (int hour = 6; hour <= 20; hour++) {
+            add("setLimit", hour, 0);
         }
-        for (int i = 0; i < 8; i++) {
-            calls.add("hush(" + i + ", false)");
-            calls.add("setPrice(" + i + ", 1)");
-            calls.add("goTo(" + i + ", 6, 0)");
-            calls.add("at(" + i + ", 20)");
-            calls.add("permit(" + i + ", 0, 6, 6)");
+        for (int i = 0; i < vendors; i++) {
+            add("hush", i, false);
+            add("setPrice", i, 1);
+            add("goTo", i, 6, 0);
+            add("at", i, 20);
+            add("permit", i, 0, 6, 6);
         }
-        for (int i = 0; i < 12; i++) {
-            calls.add("want(" + i + ", 0, 127, 6, 20, 1)");
+        for (int i = 0; i < windows; i++) {
+            add("want", i, 0, 127, 6, 20, 1);
         }
-        for (int hour = 0; hour < 15; hour++) {
-            for (int i = 0; i < 10; i++) {
-                calls.add("raid(" + i + ")");
+        for (int hour = 6; hour <= 20; hour++) {
+            for (int i = 0; i < places; i++) {
+                add("raid", i);
             }
-            calls.add("pass(1)");
+            add("pass", 1);
         }
-        for (int i = 0; i < 10; i++) {
+        for (int i = 0; i < places; i++) {
             for (int j = 0; j < i; j++) {
-                calls.add("link(" + i + ", " + j + ", 1)");
+                add("link", i, j, 1);
             }
         }
-        calls.add("vendor(0, 10, 1, 0)");
-        calls.add("window(0, 0)");
-        calls.add("place(0)");
-        calls.add("checksum()");
+        add("window", 0, 0);
+        add("tape", 0);
+        add("place", 0);
+        add("checksum");
+    }
+
+    /** A new vendor takes the typed tones, and then two of 0, so that each cry is compared with both. */
+    private void addTypedTones() {
+        add("vendor", 0, 10, 1, 0);
+        add("setCry", vendors);
+        for (int i = 0; i <= vendors; i++) {
+            add("apart", vendors, i);
+        }
+        add("wipe");
+        add("type", 0);
+        add("type", 0);
+        add("setCry", vendors);
+        for (int i = 0; i < vendors; i++) {
+            add("apart", vendors, i);
+        }
     }
 }

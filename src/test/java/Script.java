@@ -1,31 +1,40 @@
-import java.lang.reflect.InvocationTargetException;
-import java.lang.reflect.Method;
 import java.util.ArrayList;
 import java.util.List;
 
 /**
  * Runs calls written as the document writes its examples, "place(1) = 0; link(0, 1, 2) = 0", each script on a
  * new object. A call that has to throw is written "place(10) = throws.IllegalArgumentException"; "3 * pass(60)"
- * makes the call three times, of which the last answer counts.
+ * makes the call three times, of which the last answer counts (if it throws, each time); "place(-1) | place(10)"
+ * are calls of like answers; MIN and MAX are the least and the greatest int.
  *
- * Behind each script everything that can be asked of its object is compared with an object that saw the same
- * calls but for those that threw: so every script also tests that a call that throws changes nothing.
+ * "A method that throws an exception changes nothing": at each call that throws, everything that can be asked of
+ * an object that saw the calls before it is compared with what one answers that saw that call, too; and at the
+ * script's end once more, without all the calls that threw.
  */
 final class Script {
+    /** What later calls answer is free. */
+    private static final int MOST_CALLS = 512;
+
     private static int wrong = 0;
 
-    private Script() {
+    private final String name;
+    private final Cryway street = new Cryway();
+    private final List<String> all = new ArrayList<>();
+    private final List<String> kept = new ArrayList<>();
+    private List<String> answersOfKept = null;
+
+    private Script(String name) {
+        this.name = name;
     }
 
     static void run(String name, String... lines) {
-        Cryway street = new Cryway();
-        List<String> kept = new ArrayList<>();
+        Script script = new Script(name);
         for (String line : String.join(";", lines).split(";")) {
             if (!line.isBlank()) {
-                runLine(name, street, line.trim(), kept);
+                script.playLine(line.trim());
             }
         }
-        compareWithTwin(name, street, kept);
+        script.end();
     }
 
     static void finish(String test) {
@@ -42,73 +51,88 @@ final class Script {
         }
     }
 
-    private static void runLine(String name, Cryway street, String line, List<String> kept) {
-        int equals = line.indexOf('=');
-        String call = line.substring(0, equals).trim();
-        String due = line.substring(equals + 1).trim();
-        int times = 1;
-        int star = call.indexOf('*');
-        if (star >= 0) {
-            times = Integer.parseInt(call.substring(0, star).trim());
-            call = call.substring(star + 1).trim();
-        }
-        String got = "";
-        for (int i = 0; i < times; i++) {
-            got = answer(street, call);
-            if (!got.startsWith("throws.")) {
-                kept.add(call);
-            }
-        }
-        due(name, line, got, due);
-    }
-
-    private static void compareWithTwin(String name, Cryway street, List<String> kept) {
-        Cryway twin = new Cryway();
-        for (String call : kept) {
-            answer(twin, call);
-        }
-        List<String> probes = Probes.all();
-        for (String probe : probes) {
-            due(name + ", as without the calls that threw", probe, answer(street, probe), answer(twin, probe));
-        }
-    }
-
     /** The answer of one call, or "throws." and the very class that it threw. */
     static String answer(Cryway street, String call) {
-        int open = call.indexOf('(');
-        Method method = methodOf(call.substring(0, open));
-        String inside = call.substring(open + 1, call.lastIndexOf(')')).trim();
-        String[] texts = inside.isEmpty() ? new String[0] : inside.split(",");
-        Class<?>[] types = method.getParameterTypes();
-        Object[] arguments = new Object[types.length];
-        for (int i = 0; i < types.length; i++) {
-            arguments[i] = argument(types[i], texts[i].trim());
-        }
-        try {
-            return String.valueOf(method.invoke(street, arguments));
-        } catch (InvocationTargetException e) {
-            return "throws." + e.getCause().getClass().getSimpleName();
-        } catch (IllegalAccessException e) {
-            return "not to be called";
+        return Call.of(call).on(street);
+    }
+
+    private void playLine(String line) {
+        int equals = line.lastIndexOf('=');
+        String due = line.substring(equals + 1).trim();
+        for (String call : line.substring(0, equals).split("\\|")) {
+            playOften(call.trim(), due);
         }
     }
 
-    private static Method methodOf(String name) {
-        for (Method method : Cryway.class.getDeclaredMethods()) {
-            if (method.getName().equals(name)) {
-                return method;
+    private void playOften(String call, String due) {
+        int star = call.indexOf('*');
+        int times = star < 0 ? 1 : Integer.parseInt(call.substring(0, star).trim());
+        String once = call.substring(star + 1).trim();
+        for (int i = 1; i <= times; i++) {
+            String got = play(once);
+            boolean throwsOnce = due.startsWith("throws.") || got.startsWith("throws.");
+            if (i == times || throwsOnce) {
+                due(name, call, got, due);
             }
         }
-        throw new IllegalArgumentException("no method " + name);
     }
 
-    private static Object argument(Class<?> type, String text) {
-        if (type == boolean.class) {
-            return Boolean.valueOf(text);
+    private String play(String call) {
+        String got = answer(street, call);
+        all.add(call);
+        if (!got.startsWith("throws.")) {
+            kept.add(call);
+            answersOfKept = null;
+        } else if (all.size() < MOST_CALLS) {
+            List<String> past = new ArrayList<>(kept);
+            past.add(call);
+            compare(past, "behind " + call + ", which threw and must change nothing");
         }
-        if (type == char.class) {
-            return text.startsWith("'") ? text.charAt(1) : (char) Integer.parseInt(text);
+        return got;
+    }
+
+    private void end() {
+        due(name, "calls of the script, 512 at most", "" + (all.size() <= MOST_CALLS), "true");
+        if (all.size() > kept.size() && all.size() < MOST_CALLS) {
+            compare(all, "at the end, as without the calls that threw");
         }
-        return Integer.valueOf(text);
+    }
+
+    private void compare(List<String> past, String where) {
+        Probes probes = Probes.behind(kept);
+        if (answersOfKept == null) {
+            answersOfKept = ask(kept, probes);
+        }
+        List<String> answers = ask(past, probes);
+        for (int i = 0; i < answers.size() && i < answersOfKept.size(); i++) {
+            due(name + " (" + where + ")", probes.call(i), answers.get(i), answersOfKept.get(i));
+        }
+    }
+
+    /** Questions that change nothing may go on with a new object of the same past, so that none answers too often. */
+    private static List<String> ask(List<String> past, Probes probes) {
+        List<String> answers = new ArrayList<>();
+        Cryway asked = replay(past);
+        int calls = past.size();
+        for (int i = 0; i < probes.size(); i++) {
+            if (i == probes.firstThatChanges() || calls == MOST_CALLS && i < probes.firstThatChanges()) {
+                asked = replay(past);
+                calls = past.size();
+            }
+            if (calls == MOST_CALLS) {
+                return answers;
+            }
+            answers.add(answer(asked, probes.call(i)));
+            calls++;
+        }
+        return answers;
+    }
+
+    private static Cryway replay(List<String> past) {
+        Cryway street = new Cryway();
+        for (String call : past) {
+            answer(street, call);
+        }
+        return street;
     }
 }
