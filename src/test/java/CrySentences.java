@@ -141,6 +141,11 @@ final class CrySentences {
                 "setCry(0) = 0; freeCry(0) = 0; stock(0, 9) = 9; freeCry(0) = 24; strength(0, 1) = 11; freeCry(1) = 24",
                 "setWind(1) = 0; strength(0, 1) = 10; freeCry(1) = 24; setWind(2) = 1; strength(0, 1) = 9; freeCry(1) = 0",
                 "freeCry(0) = 24; freeCry(2) = 0; setWind(0) = 2; hush(0, true) = false; freeCry(0) = 0; freeCry(1) = 0")
+            .hold("of a vendor who is heard there",
+                "2 * place(0) = 1; vendor(0, 60, 1, 0) = 0; vendor(0, 60, 1, 1) = 1; stock(0, 9) = 9; stock(1, 9) = 9; 4 * type(9) = 4",
+                "setCry(0) = 0; wipe() = 4; 4 * type(0) = 4; setCry(1) = 0; freeCry(0) = 0; freeCry(1) = 24; window(0, 0) = 0",
+                "freeCry(0) = 0; freeCry(1) = 24; wipe() = 4; 4 * type(9) = 4; setCry(1) = 4; wipe() = 4; 4 * type(0) = 4",
+                "setCry(0) = 4; freeCry(0) = 24; freeCry(1) = 0")
             .hold(", as if others were silent,",
                 Streets.LOUD, "vendor(1, 60, 1, 0) = 1; stock(1, 9) = 9; wipe() = 2; 4 * type(0) = 4; setCry(0) = 2",
                 "freeCry(0) = 24; setCry(1) = 0; window(0, 0) = 0; hears(0, 0) = false; hears(0, 1) = false; freeCry(0) = 24")

@@ -165,7 +165,7 @@ final class HourSentences {
             .hold(", 200 at most.",
                 Streets.LOUD, "3 * pass(50) = 150; pass(15) = 165; of(0, 't') = 165; stock(0, 99) = 198; pass(10) = 175",
                 "of(0, 't') = 195; pass(1) = 176; of(0, 't') = 198; pass(1) = 177; of(0, 't') = 200; pass(1) = 178",
-                "of(0, 't') = 200; isSound() = true; pass(1) = 179; of(0, 't') = 200; pass(1) = 180; of(0, 't') = 170",
+                "of(0, 't') = 200; isSound() = true; isSilent(0) = false; pass(1) = 179; of(0, 't') = 200; pass(1) = 180; of(0, 't') = 170",
                 "pass(9) = 189; of(0, 't') = 197; pass(1) = 190; of(0, 't') = 200; pass(1) = 191; of(0, 't') = 200",
                 "hush(0, true) = false; pass(3) = 194; of(0, 't') = 200; pass(1) = 195; of(0, 't') = 170");
     }

@@ -1,9 +1,7 @@
 /** Promises 26 to 30, and how an hour goes by: pass, hour, day, sales, sale. */
 public final class HourTest {
-    private static final String CRIER =
-        "place(0) = 0; vendor(0, 50, 8, 0) = 0; type(1) = 1; type(3) = 2; setCry(0) = 0; stock(0, 99) = 99";
-    private static final String TWO_CRIERS = CRIER
-        + "; vendor(0, 50, 8, 0) = 1; wipe() = 2; type(8) = 1; type(9) = 2; setCry(1) = 0; stock(1, 99) = 99";
+    private static final String CRIER = Streets.CRIER;
+    private static final String TWO_CRIERS = Streets.TWO_CRIERS;
 
     public static void main(String[] args) {
         hoursAndDays();

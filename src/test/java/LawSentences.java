@@ -19,6 +19,11 @@ final class LawSentences {
                 VENDOR, "vendor(0, 50, 8, 0) = 1; raid(0) = 2; 5 * permit(0, 0, 20, 20) = 5; raid(0) = 2; permit(0, 0, 6, 6) = 6",
                 "raid(0) = 1; permit(0, 0, 6, 6)" + Streets.STATE, "5 * permit(1, 0, 20, 20) = 5; permit(1, 0, 6, 6) = 6",
                 "raid(0) = 0; permit(1, 0, 6, 6)" + Streets.STATE)
+            .hold("each for a place, from an hour on up to another one",
+                "3 * place(0) = 2; link(0, 1, 1) = 0; link(1, 2, 1) = 0; vendor(0, 50, 8, 0) = 0; goTo(0, 7, 1) = 0; goTo(0, 8, 2) = 1",
+                "permit(0, 0, 6, 6) = 1; permit(0, 2, 8, 8) = 2; permit(0, 1, 7, 7) = 3; raid(0) = 0; pass(1) = 1; raid(1) = 0",
+                "pass(1) = 2; raid(2) = 0; pass(1) = 3; raid(2) = 1; permit(0, 0, 6, 20) = 4; permit(0, 1, 6, 20) = 5; raid(2) = 1",
+                "permit(0, 2, 9, 20) = 6; raid(2) = 0; of(0, 'f') = 60")
             .hold("each for a place",
                 "3 * place(0) = 2; vendor(0, 50, 8, 1) = 0; permit(0, 0, 6, 20) = 1; permit(0, 2, 6, 20) = 2; raid(1) = 1",
                 "permit(0, 1, 6, 20) = 3; raid(1) = 0; of(0, 'f') = 30")
@@ -96,8 +101,9 @@ final class LawSentences {
                     + " | permit(0, 0, 6, MAX)" + Streets.ARGUMENT,
                 "raid(0) = 1; permit(0, 0, 6, 6) = 1; permit(0, 0, 20, 20) = 2; permit(0, 0, 6, 20) = 3")
             .hold("Throws `IllegalStateException` if the vendor has 6",
-                VENDOR, "vendor(0, 50, 8, 0) = 1; 5 * permit(0, 0, 7, 7) = 5; permit(0, 0, 8, 8) = 6",
-                "permit(0, 0, 6, 20) | permit(0, 0, 6, 6)" + Streets.STATE, "raid(0) = 2; permit(1, 0, 6, 20) = 1; raid(0) = 1");
+                VENDOR, "vendor(0, 50, 8, 0) = 1; place(0) = 1; 5 * permit(0, 0, 7, 7) = 5; permit(0, 0, 9, 10) = 6",
+                "permit(0, 1, 9, 10) | permit(0, 0, 6, 10) | permit(0, 0, 9, 9) | permit(0, 0, 6, 6)" + Streets.STATE,
+                "raid(0) = 2; permit(1, 0, 6, 20) = 1; raid(0) = 1; pass(4) = 4; raid(0) = 0");
     }
 
     private static void raid() {

@@ -1,12 +1,16 @@
 import java.util.ArrayList;
+import java.util.Arrays;
 import java.util.HashMap;
+import java.util.HashSet;
 import java.util.List;
 import java.util.Map;
+import java.util.Set;
 
-/** Calls that together ask for everything that an object holds; the later ones change it for that. */
+/** Calls that together ask for everything that an object holds; the later ones change objects for that. */
 final class Probes {
     private static final int DAYS_A_WEEK = 7;
     private static final int SALES_ASKED = 52;
+    private static final int MOST_VENDORS = 8;
 
     private static final Map<String, Probes> KNOWN = new HashMap<>();
 
@@ -16,6 +20,7 @@ final class Probes {
     private final int tapes;
     private final int sales;
     private final List<String> calls = new ArrayList<>();
+    private final Set<Integer> anew = new HashSet<>();
     private final int firstThatChanges;
 
     private Probes(int places, int vendors, int windows, int tapes, int sales) {
@@ -26,7 +31,9 @@ final class Probes {
         this.sales = sales;
         addQuestions();
         firstThatChanges = calls.size();
-        addQuestionsThatChange();
+        addHours();
+        addSettings();
+        addOneMore();
     }
 
     /** For an object that has seen these calls: what it has, and of everything one more. */
@@ -36,7 +43,7 @@ final class Probes {
             Script.answer(street, call);
         }
         int[] counts = {many(past, "place("), many(past, "vendor("), many(past, "window("), many(past, "tape("), street.sales()};
-        String key = java.util.Arrays.toString(counts);
+        String key = Arrays.toString(counts);
         return KNOWN.computeIfAbsent(key, k -> new Probes(counts[0], counts[1], counts[2], counts[3], counts[4]));
     }
 
@@ -48,8 +55,13 @@ final class Probes {
         return calls.get(i);
     }
 
-    int firstThatChanges() {
-        return firstThatChanges;
+    /** Whether a new object is to be asked from this call on: one that the calls before it have not changed. */
+    boolean beginsAnew(int i) {
+        return anew.contains(i);
+    }
+
+    boolean changes(int i) {
+        return i >= firstThatChanges;
     }
 
     private static int many(List<String> past, String begin) {
@@ -132,14 +144,33 @@ final class Probes {
         }
     }
 
-    /** What only a change shows: links, tones, hush, melting, limits, prices, permits, plans and wants. */
-    private void addQuestionsThatChange() {
+    /** What only the hours to come show: wants, limits, what melts, plans, tapes and permits. */
+    private void addHours() {
+        beginAnew();
         for (int day = 0; day < DAYS_A_WEEK; day++) {
             add("pass", 15);
             add("sales");
             add("checksum");
+            for (int i = 0; i < tapes; i++) {
+                add("length", i);
+            }
+            for (int i = 0; i < windows; i++) {
+                add("fulfilled", i);
+            }
         }
-        addTypedTones();
+        beginAnew();
+        for (int hour = 6; hour <= 20; hour++) {
+            for (int i = 0; i < places; i++) {
+                add("raid", i);
+            }
+            add("pass", 1);
+        }
+        add("checksum");
+    }
+
+    /** What only another one in its place shows: the wind, what melts, limits, prices, and the typed tones. */
+    private void addSettings() {
+        beginAnew();
         add("setWind", 0);
         for (int i = 0; i < 6; i++) {
             add("setMelting", i, false);
@@ -150,43 +181,57 @@ final class Probes {
         for (int i = 0; i < vendors; i++) {
             add("hush", i, false);
             add("setPrice", i, 1);
-            add("goTo", i, 6, 0);
-            add("at", i, 20);
-            add("permit", i, 0, 6, 6);
         }
-        for (int i = 0; i < windows; i++) {
-            add("want", i, 0, 127, 6, 20, 1);
-        }
-        for (int hour = 6; hour <= 20; hour++) {
-            for (int i = 0; i < places; i++) {
-                add("raid", i);
-            }
-            add("pass", 1);
-        }
+        addTypedTones();
+        beginAnew();
         for (int i = 0; i < places; i++) {
             for (int j = 0; j < i; j++) {
                 add("link", i, j, 1);
             }
         }
+        for (int i = 0; i < vendors; i++) {
+            add("goTo", i, 6, 0);
+            add("at", i, 20);
+        }
+    }
+
+    /** The last vendor takes the typed tones, and then two of 0, so that each cry is compared with both. */
+    private void addTypedTones() {
+        int last = Math.min(vendors, MOST_VENDORS - 1);
+        if (last == vendors) {
+            add("vendor", 0, 10, 1, 0);
+        }
+        add("setCry", last);
+        for (int i = 0; i <= last; i++) {
+            add("apart", last, i);
+        }
+        add("wipe");
+        add("type", 0);
+        add("type", 0);
+        add("setCry", last);
+        for (int i = 0; i < last; i++) {
+            add("apart", last, i);
+        }
+    }
+
+    /** How many there are of each, by the number of one more, as far as there is room. */
+    private void addOneMore() {
+        beginAnew();
+        for (int i = 0; i < windows; i++) {
+            add("want", i, 0, 127, 6, 20, 1);
+        }
+        for (int i = 0; i < vendors; i++) {
+            add("permit", i, 0, 6, 6);
+        }
+        add("type", 0);
+        add("vendor", 0, 10, 1, 0);
         add("window", 0, 0);
         add("tape", 0);
         add("place", 0);
         add("checksum");
     }
 
-    /** A new vendor takes the typed tones, and then two of 0, so that each cry is compared with both. */
-    private void addTypedTones() {
-        add("vendor", 0, 10, 1, 0);
-        add("setCry", vendors);
-        for (int i = 0; i <= vendors; i++) {
-            add("apart", vendors, i);
-        }
-        add("wipe");
-        add("type", 0);
-        add("type", 0);
-        add("setCry", vendors);
-        for (int i = 0; i < vendors; i++) {
-            add("apart", vendors, i);
-        }
+    private void beginAnew() {
+        anew.add(calls.size());
     }
 }

@@ -104,25 +104,25 @@ final class Script {
             answersOfKept = ask(kept, probes);
         }
         List<String> answers = ask(past, probes);
-        for (int i = 0; i < answers.size() && i < answersOfKept.size(); i++) {
-            due(name + " (" + where + ")", probes.call(i), answers.get(i), answersOfKept.get(i));
+        for (int i = 0; i < answers.size(); i++) {
+            boolean asked = !answers.get(i).equals("not asked") && !answersOfKept.get(i).equals("not asked");
+            if (asked) {
+                due(name + " (" + where + ")", probes.call(i), answers.get(i), answersOfKept.get(i));
+            }
         }
     }
 
-    /** Questions that change nothing may go on with a new object of the same past, so that none answers too often. */
+    /** No object answers too often: questions that change nothing may go on with a new one of the same past. */
     private static List<String> ask(List<String> past, Probes probes) {
         List<String> answers = new ArrayList<>();
         Cryway asked = replay(past);
         int calls = past.size();
         for (int i = 0; i < probes.size(); i++) {
-            if (i == probes.firstThatChanges() || calls == MOST_CALLS && i < probes.firstThatChanges()) {
+            if (probes.beginsAnew(i) || calls == MOST_CALLS && !probes.changes(i)) {
                 asked = replay(past);
                 calls = past.size();
             }
-            if (calls == MOST_CALLS) {
-                return answers;
-            }
-            answers.add(answer(asked, probes.call(i)));
+            answers.add(calls < MOST_CALLS ? answer(asked, probes.call(i)) : "not asked");
             calls++;
         }
         return answers;

@@ -108,7 +108,8 @@ final class StreetSentences {
                 "place(-1) | place(10) | place(MIN) | place(MAX)" + Streets.ARGUMENT, "place(0) = 0",
                 "place(-1) | place(10) | place(MIN) | place(MAX)" + Streets.ARGUMENT, "place(9) = 1")
             .hold("Throws `IllegalStateException` if there are 10",
-                "9 * place(0) = 8; place(0) = 9; place(0) | place(9) | place(5)" + Streets.STATE);
+                "9 * place(0) = 8; place(0) = 9; vendor(0, 60, 1, 0) = 0; vendor(0, 60, 1, 9) = 1",
+                "place(0) | place(9) | place(5)" + Streets.STATE, "strength(0, 0) = 60; strength(1, 9) = 60");
     }
 
     private static void link() {

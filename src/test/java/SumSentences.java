@@ -30,6 +30,11 @@ final class SumSentences {
                 "bestPlace(1) = 0; bestPlace(2) = 0; setWind(1) = 0; bestPlace(1) = 0; setWind(2) = 1; bestPlace(1) = 1",
                 "bestPlace(2) = 0; setWind(0) = 2; pass(3) = 5; hour() = 11; bestPlace(1) = 1; bestPlace(2) = 0; setWind(1) = 0",
                 "bestPlace(2) = 1; pass(3) = 8; hour() = 14; bestPlace(2) = 0")
+            .hold("now: the place from which the voice",
+                "place(9) = 0; place(0) = 1; link(0, 1, 1) = 0; vendor(0, 20, 8, 0) = 0; vendor(0, 23, 8, 0) = 1; window(1, 0) = 0",
+                "want(0" + WANT + " = 1; bestPlace(0) = 0; setWind(5) = 0; bestPlace(0) = 0; setWind(6) = 5; bestPlace(0) = 1",
+                "place(9) = 2; link(1, 2, 1) = 0; window(2, 0) = 1; want(1" + WANT + " = 1; setWind(0) = 6; bestPlace(0) = 2",
+                "bestPlace(1) = 2; setWind(4) = 0; bestPlace(1) = 2; setWind(5) = 4; bestPlace(1) = 0")
             .hold(", were no other one heard,",
                 "2 * place(0) = 1; vendor(0, 20, 8, 0) = 0; vendor(0, 60, 8, 1) = 1; 2 * type(1) = 2; setCry(0) = 0; setCry(1) = 0",
                 "stock(0, 9) = 9; stock(1, 9) = 9; window(1, 0) = 0; want(0" + WANT + " = 1; hears(0, 1) = true; bestPlace(0) = 1")
@@ -111,6 +116,15 @@ final class SumSentences {
                 Streets.TWO_CRIERS, "3 * window(0, 0) = 2; 2 * want(1, 0, 127, 6, 20, 99) = 2; want(0, 0, 127, 6, 20, 8) = 1",
                 "setPrice(0, 99) = 8; pass(1) = 1; hush(1, true) = false; want(1, 0, 127, 6, 20, 99) = 3; pass(1) = 2",
                 "owes(1, 0) = 99; owes(1, 1) = 16; checksum() = " + Sums.fold(98, 6, 0, 99, 96, 3, 0, 24, 8, 115, 0, 4, 0, 8))
+            .hold("plus what it owes in all",
+                "place(0) = 0; 8 * vendor(0, 60, 7, 0) = 7; 2 * type(1) = 2; setCry(7) = 0; stock(7, 9) = 9; 12 * window(0, 0) = 11",
+                "want(11, 0, 127, 6, 20, 9) = 1; pass(1) = 1; owes(11, 7) = 7; checksum() = "
+                    + Sums.fold(0, 0, 0, 0, 0, 0, 0, 0, 0, 0, 0, 0, 0, 0, 0, 0, 0, 0, 0, 0, 0, 0, 0, 0, 0, 0, 0, 0, 8, 3, 0, 7,
+                        0, 0, 0, 0, 0, 0, 0, 0, 0, 0, 0, 7, 1, 0, 7),
+                "wipe() = 2; 2 * type(9) = 2; setCry(0) = 0; stock(0, 9) = 9; setPrice(0, 5) = 7; want(11, 0, 127, 7, 20, 9) = 2",
+                "pass(1) = 2; owes(11, 7) = 7; owes(11, 0) = 5; checksum() = "
+                    + Sums.fold(8, 3, 0, 5, 0, 0, 0, 0, 0, 0, 0, 0, 0, 0, 0, 0, 0, 0, 0, 0, 0, 0, 0, 0, 0, 0, 0, 0, 8, 6, 0, 7,
+                        0, 0, 0, 0, 0, 0, 0, 0, 0, 0, 0, 12, 2, 0, 8))
             .hold("; then 31 times itself plus the sales, then 31 times itself plus the day, then the hour, likewise.",
                 "checksum() = 208543; pass(14) = 14; checksum() = 208557; pass(1) = 15; checksum() = 208574; 74 * pass(60) = 4455",
                 "pass(59) = 4514; checksum() = 217857; place(0) = 0; 8 * vendor(5, 60, 99, 0) = 7; 12 * window(0, 0) = 11",
@@ -155,7 +169,7 @@ final class SumSentences {
                 "isSound() = true", Streets.TWO_CRIERS, "isSound() = true; 12 * window(0, 0) = 11; want(0, 0, 127, 6, 20, 9) = 1",
                 "want(11, 0, 127, 6, 20, 9) = 1; pass(1) = 1; isSound() = true; setPrice(1, 3) = 8; pass(15) = 16",
                 "isSound() = true; pay(0, 0, 8) = 0; pay(11, 1, 1) = 2; isSound() = true; pay(11, 1, 3)" + Streets.UNSUPPORTED,
-                "isSound() = true; pay(11, 1, 2) = 0; raid(0) = 2; isSound() = true")
+                "isSound() = true; pay(11, 1, 2) = 0; raid(0) = 2; isSound() = true; 9 * raid(0) = 2; of(0, 'f') = 300; isSound() = true")
             .hold("; stock is not below 0",
                 "place(0) = 0; vendor(0, 60, 8, 0) = 0; vendor(0, 60, 8, 0) = 1; 2 * type(1) = 2; setCry(0) = 0; stock(0, 1) = 1",
                 "setMelting(0, true) = false; window(0, 0) = 0; 4 * want(0, 0, 127, 6, 20, 9) = 4; pass(1) = 1; isSound() = true",

@@ -1,7 +1,6 @@
 /** Promises 41 to 44: checksum, silentShare, meanPrice, isSound. */
 public final class SumsTest {
-    private static final String CRIER =
-        "place(0) = 0; vendor(0, 50, 8, 0) = 0; type(1) = 1; type(3) = 2; setCry(0) = 0; stock(0, 99) = 99";
+    private static final String CRIER = Streets.CRIER;
 
     public static void main(String[] args) {
         checksum();
@@ -11,25 +10,17 @@ public final class SumsTest {
         Script.finish("SumsTest");
     }
 
-    private static long fold(long... numbers) {
-        long sum = 7;
-        for (long number : numbers) {
-            sum = 31 * sum + number;
-        }
-        return sum;
-    }
-
     private static void checksum() {
         Script.run("promise 41: without vendors and windows",
-            "checksum() = " + fold(0, 0, 6), "place(3) = 0; checksum() = " + fold(0, 0, 6),
-            "pass(1) = 1; checksum() = " + fold(0, 0, 7), "pass(15) = 16; checksum() = " + fold(0, 1, 7));
+            "checksum() = " + Sums.fold(0, 0, 6), "place(3) = 0; checksum() = " + Sums.fold(0, 0, 6),
+            "pass(1) = 1; checksum() = " + Sums.fold(0, 0, 7), "pass(15) = 16; checksum() = " + Sums.fold(0, 1, 7));
         Script.run("promise 41: stock, tiredness, fines, what was sold for, what is owed, sales, day, hour", CRIER,
-            "checksum() = " + fold(99, 0, 0, 0, 0, 0, 6), "window(0, 0) = 0; checksum() = " + fold(99, 0, 0, 0, 0, 0, 0, 6),
-            "want(0, 0, 127, 6, 20, 9) = 1; window(0, 0) = 1; pass(1) = 1; checksum() = " + fold(98, 3, 0, 8, 8, 0, 1, 0, 7),
-            "raid(0) = 1; vendor(1, 60, 5, 0) = 1; stock(1, 7) = 7; checksum() = " + fold(98, 3, 30, 8, 7, 0, 0, 0, 8, 0, 1, 0, 7),
-            "pay(0, 0, 3) = 5; checksum() = " + fold(98, 3, 30, 8, 7, 0, 0, 0, 5, 0, 1, 0, 7),
+            "checksum() = " + Sums.fold(99, 0, 0, 0, 0, 0, 6), "window(0, 0) = 0; checksum() = " + Sums.fold(99, 0, 0, 0, 0, 0, 0, 6),
+            "want(0, 0, 127, 6, 20, 9) = 1; window(0, 0) = 1; pass(1) = 1; checksum() = " + Sums.fold(98, 3, 0, 8, 8, 0, 1, 0, 7),
+            "raid(0) = 1; vendor(1, 60, 5, 0) = 1; stock(1, 7) = 7; checksum() = " + Sums.fold(98, 3, 30, 8, 7, 0, 0, 0, 8, 0, 1, 0, 7),
+            "pay(0, 0, 3) = 5; checksum() = " + Sums.fold(98, 3, 30, 8, 7, 0, 0, 0, 5, 0, 1, 0, 7),
             "hush(0, true) = false; wipe() = 2; 2 * type(9) = 2; setCry(1) = 0; want(1, 1, 127, 6, 20, 9) = 1; want(0, 1, 127, 6, 20, 9) = 2",
-            "pass(1) = 2; checksum() = " + fold(98, 3, 30, 8, 5, 3, 0, 10, 10, 5, 3, 0, 8));
+            "pass(1) = 2; checksum() = " + Sums.fold(98, 3, 30, 8, 5, 3, 0, 10, 10, 5, 3, 0, 8));
     }
 
     private static void silentShare() {

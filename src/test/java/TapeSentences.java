@@ -102,7 +102,8 @@ final class TapeSentences {
                 "tape(0)" + Streets.INDEX, "place(0) = 0; tape(1) | tape(-1) | tape(MIN) | tape(MAX)" + Streets.INDEX,
                 "tape(0) = 0; 9 * place(0) = 9; tape(10)" + Streets.INDEX, "tape(9) = 1")
             .hold("Throws `IllegalStateException` if there are 6",
-                "2 * place(0) = 1; 5 * tape(1) = 4; tape(0) = 5; tape(0) | tape(1)" + Streets.STATE, "length(5) = 0",
+                Streets.LOUD, "place(0) = 1; 4 * tape(1) = 3; tape(0) = 4; tape(0) = 5; tape(1) | tape(0)" + Streets.STATE, "pass(1) = 1",
+                "length(3) = 0; length(4) = 1; length(5) = 1; tape(1) | tape(0)" + Streets.STATE, "pass(1) = 2; length(5) = 2",
                 "length(6)" + Streets.INDEX);
     }
 

@@ -1,7 +1,6 @@
 /** Promises 8 and 11 to 19: vendor, goTo, at, setPrice, stock, hush, setMelting, isSilent, of, strength. */
 public final class VendorTest {
-    private static final String CRIER =
-        "place(0) = 0; vendor(0, 50, 8, 0) = 0; type(1) = 1; type(3) = 2; setCry(0) = 0; stock(0, 99) = 99";
+    private static final String CRIER = Streets.CRIER;
 
     public static void main(String[] args) {
         vendor();

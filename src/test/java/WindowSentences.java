@@ -120,8 +120,12 @@ final class WindowSentences {
                 "place(0) = 0; window(0, -1) | window(0, 6) | window(0, MIN) | window(0, MAX)" + Streets.ARGUMENT,
                 "window(0, 0) = 0; window(0, -1) | window(0, 6)" + Streets.ARGUMENT, "window(0, 5) = 1")
             .hold("Throws `IllegalStateException` if there are 12",
-                "place(0) = 0; 11 * window(0, 0) = 10; window(0, 5) = 11; window(0, 0) | window(0, 5)" + Streets.STATE,
-                "fulfilled(12)" + Streets.INDEX);
+                "2 * place(0) = 1; vendor(0, 19, 8, 0) = 0; 2 * type(1) = 2; setCry(0) = 0; stock(0, 9) = 9; 11 * window(0, 0) = 10",
+                "window(0, 5) = 11; window(0, 0) | window(1, 0)" + Streets.STATE, "hears(10, 0) = true; hears(11, 0) = false",
+                "fulfilled(12)" + Streets.INDEX)
+            .hold("if there are 12",
+                "2 * place(0) = 1; vendor(0, 19, 8, 0) = 0; 2 * type(1) = 2; setCry(0) = 0; stock(0, 9) = 9; 11 * window(0, 0) = 10",
+                "window(1, 0) = 11; window(0, 0) | window(0, 5)" + Streets.STATE, "hears(10, 0) = true; hears(11, 0) = false");
     }
 
     private static void want() {
@@ -183,7 +187,14 @@ final class WindowSentences {
             .hold("Throws `IllegalStateException` if it has 4",
                 WINDOW, "window(0, 0) = 1; 3 * want(0, 0, 1, 6, 6, 1) = 3; want(0, 5, 127, 20, 20, 99) = 4",
                 "want(0, 0, 1, 6, 6, 1) | want(0, 5, 127, 20, 20, 99)" + Streets.STATE, "4 * want(1, 0, 1, 6, 6, 1) = 4",
-                "want(1, 0, 1, 6, 6, 1)" + Streets.STATE);
+                "want(1, 0, 1, 6, 6, 1)" + Streets.STATE)
+            .hold("if it has 4",
+                Streets.LOUD, "setPrice(0, 2) = 1; window(0, 0) = 0; pass(1) = 1; 3 * want(0, 0, 127, 6, 20, 99) = 3",
+                "want(0, 0, 127, 6, 20, 2) = 4",
+                "want(0, 5, 127, 6, 20, 99) | want(0, 0, 1, 6, 20, 99) | want(0, 0, 127, 20, 20, 99)" + Streets.STATE,
+                "want(0, 0, 127, 6, 6, 99) | want(0, 0, 127, 6, 20, 1) | want(0, 0, 127, 6, 20, 99)" + Streets.STATE,
+                "pass(1) = 2; sales() = 4; want(0, 5, 1, 20, 20, 1)" + Streets.STATE, "fulfilled(0) = 4; setPrice(0, 3) = 2",
+                "pass(15) = 17; sales() = 7; want(0, 0, 127, 6, 20, 3)" + Streets.STATE, "pass(1) = 18; sales() = 7");
     }
 
     private static void hears() {

@@ -1,7 +1,6 @@
 /** Promises 20 to 25: window, want, hears, fulfilled, owes, pay. */
 public final class WindowTest {
-    private static final String CRIER =
-        "place(0) = 0; vendor(0, 50, 8, 0) = 0; type(1) = 1; type(3) = 2; setCry(0) = 0; stock(0, 99) = 99";
+    private static final String CRIER = Streets.CRIER;
 
     public static void main(String[] args) {
         window();
