@@ -116,6 +116,11 @@ final class SumSentences {
                 Streets.TWO_CRIERS, "3 * window(0, 0) = 2; 2 * want(1, 0, 127, 6, 20, 99) = 2; want(0, 0, 127, 6, 20, 8) = 1",
                 "setPrice(0, 99) = 8; pass(1) = 1; hush(1, true) = false; want(1, 0, 127, 6, 20, 99) = 3; pass(1) = 2",
                 "owes(1, 0) = 99; owes(1, 1) = 16; checksum() = " + Sums.fold(98, 6, 0, 99, 96, 3, 0, 24, 8, 115, 0, 4, 0, 8))
+            .hold("then the fines",
+                "2 * place(0) = 1; vendor(0, 60, 7, 0) = 0; vendor(0, 60, 7, 1) = 1; vendor(0, 60, 7, 0) = 2; permit(2, 0, 6, 20) = 1",
+                "raid(0) = 1; 2 * raid(1) = 1; checksum() = " + Sums.fold(0, 0, 30, 0, 0, 0, 60, 0, 0, 0, 0, 0, 0, 0, 6),
+                "stock(2, 5) = 5; 2 * type(1) = 2; setCry(2) = 0; setLimit(6, 59) = 99; pass(1) = 1",
+                "checksum() = " + Sums.fold(0, 0, 30, 0, 0, 0, 60, 0, 5, 3, 5, 0, 0, 0, 7))
             .hold("plus what it owes in all",
                 "place(0) = 0; 8 * vendor(0, 60, 7, 0) = 7; 2 * type(1) = 2; setCry(7) = 0; stock(7, 9) = 9; 12 * window(0, 0) = 11",
                 "want(11, 0, 127, 6, 20, 9) = 1; pass(1) = 1; owes(11, 7) = 7; checksum() = "

@@ -137,6 +137,10 @@ final class TapeSentences {
                 Streets.LOUD, "wareAt(0, 0)" + Streets.INDEX, "tape(0) = 0; pass(1) = 1",
                 "wareAt(1, 0) | wareAt(-1, 0) | wareAt(MIN, 0) | wareAt(MAX, 0)" + Streets.INDEX, "5 * tape(0) = 5; pass(1) = 2",
                 "wareAt(6, 0)" + Streets.INDEX, "wareAt(5, 0) = 0; wareAt(0, 0) = 0")
+            .hold("if there is no such one",
+                Streets.LOUD, "place(0) = 1; tape(1) = 0; tape(0) = 1; pass(2) = 2; tape(0) = 2; pass(1) = 3; wareAt(1, 2) = 0",
+                "wareAt(2, 0) = 0; wareAt(0, 0) | wareAt(1, 3) | wareAt(2, 1)" + Streets.NONE, "pass(40) = 43; wareAt(1, 39) = 0",
+                "wareAt(2, 39) = 0; wareAt(0, 0) | wareAt(1, 40) | wareAt(2, 40)" + Streets.NONE)
             .hold("Throws `NoSuchElementException` if there is no such one",
                 Streets.LOUD, "tape(0) = 0; wareAt(0, 0) | wareAt(0, -1) | wareAt(0, 1)" + Streets.NONE, "pass(1) = 1",
                 "wareAt(0, 0) = 0",
