@@ -175,6 +175,11 @@ final class SumSentences {
                 "want(11, 0, 127, 6, 20, 9) = 1; pass(1) = 1; isSound() = true; setPrice(1, 3) = 8; pass(15) = 16",
                 "isSound() = true; pay(0, 0, 8) = 0; pay(11, 1, 1) = 2; isSound() = true; pay(11, 1, 3)" + Streets.UNSUPPORTED,
                 "isSound() = true; pay(11, 1, 2) = 0; raid(0) = 2; isSound() = true; 9 * raid(0) = 2; of(0, 'f') = 300; isSound() = true")
+            .hold("what was sold for is what is owed, and was paid",
+                "place(0) = 0; vendor(0, 60, 99, 0) = 0; 2 * type(1) = 2; setCry(0) = 0; stock(0, 9) = 9; window(0, 0) = 0",
+                "want(0, 0, 127, 6, 20, 99) = 1; pass(1) = 1; pay(0, 0, 99) = 0; isSound() = true; pass(15) = 16; pay(0, 0, 98) = 1",
+                "isSound() = true; pass(15) = 31; pay(0, 0, 100) = 0; isSound() = true; of(0, 'e') = 297; pass(15) = 46",
+                "isSound() = true; of(0, 'e') = 396; owes(0, 0) = 99")
             .hold("; stock is not below 0",
                 "place(0) = 0; vendor(0, 60, 8, 0) = 0; vendor(0, 60, 8, 0) = 1; 2 * type(1) = 2; setCry(0) = 0; stock(0, 1) = 1",
                 "setMelting(0, true) = false; window(0, 0) = 0; 4 * want(0, 0, 127, 6, 20, 9) = 4; pass(1) = 1; isSound() = true",
