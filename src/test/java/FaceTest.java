@@ -12,53 +12,6 @@ import java.util.TreeSet;
 
 /** The face is that of the document, no more and no less, and the source keeps to what can be seen of LANGUAGE.md. */
 public final class FaceTest {
-    private static final String[] FACE = {
-        "public int place(int) throws IllegalArgumentException, IllegalStateException",
-        "public int link(int, int, int) throws IndexOutOfBoundsException, IllegalArgumentException",
-        "public int far(int, int) throws IndexOutOfBoundsException, NoSuchElementException",
-        "public int setWind(int) throws IllegalArgumentException",
-        "public int type(int) throws IllegalArgumentException, IllegalStateException",
-        "public int wipe()",
-        "public int vendor(int, int, int, int) throws IndexOutOfBoundsException, IllegalArgumentException, IllegalStateException",
-        "public int setCry(int) throws IndexOutOfBoundsException, UnsupportedOperationException",
-        "public int apart(int, int) throws IndexOutOfBoundsException, NoSuchElementException",
-        "public int goTo(int, int, int) throws IndexOutOfBoundsException, IllegalArgumentException, UnsupportedOperationException",
-        "public int at(int, int) throws IndexOutOfBoundsException, IllegalArgumentException",
-        "public int setPrice(int, int) throws IndexOutOfBoundsException, IllegalArgumentException",
-        "public int stock(int, int) throws IndexOutOfBoundsException, IllegalArgumentException, UnsupportedOperationException",
-        "public boolean hush(int, boolean) throws IndexOutOfBoundsException",
-        "public boolean setMelting(int, boolean) throws IllegalArgumentException",
-        "public boolean isSilent(int) throws IndexOutOfBoundsException",
-        "public int of(int, char) throws IndexOutOfBoundsException, IllegalArgumentException",
-        "public int strength(int, int) throws IndexOutOfBoundsException",
-        "public int window(int, int) throws IndexOutOfBoundsException, IllegalArgumentException, IllegalStateException",
-        "public int want(int, int, int, int, int, int)"
-            + " throws IndexOutOfBoundsException, IllegalArgumentException, IllegalStateException",
-        "public boolean hears(int, int) throws IndexOutOfBoundsException",
-        "public int fulfilled(int) throws IndexOutOfBoundsException",
-        "public int owes(int, int) throws IndexOutOfBoundsException",
-        "public int pay(int, int, int) throws IndexOutOfBoundsException, IllegalArgumentException, UnsupportedOperationException",
-        "public int pass(int) throws IllegalArgumentException, IllegalStateException",
-        "public int hour()",
-        "public int day()",
-        "public int sales()",
-        "public int sale(int, char) throws IllegalArgumentException, NoSuchElementException",
-        "public int setLimit(int, int) throws IllegalArgumentException",
-        "public int permit(int, int, int, int)"
-            + " throws IndexOutOfBoundsException, IllegalArgumentException, IllegalStateException",
-        "public int raid(int) throws IndexOutOfBoundsException",
-        "public int tape(int) throws IndexOutOfBoundsException, IllegalStateException",
-        "public int length(int) throws IndexOutOfBoundsException",
-        "public int wareAt(int, int) throws IndexOutOfBoundsException, NoSuchElementException",
-        "public int differ(int, int) throws IndexOutOfBoundsException",
-        "public int nearest(int) throws IndexOutOfBoundsException, NoSuchElementException",
-        "public int freeCry(int) throws IndexOutOfBoundsException, NoSuchElementException",
-        "public int bestPlace(int) throws IndexOutOfBoundsException",
-        "public long checksum()",
-        "public float silentShare() throws ArithmeticException",
-        "public double meanPrice() throws ArithmeticException",
-        "public boolean isSound()"};
-
     /** Whatever LANGUAGE.md leaves may be there; an answer by catching what the machine throws may not. */
     private static final String[] NOT_IN_THE_SOURCE = {"->", "::", "finally", "synchronized", "assert ", "static {",
         "protected ", "package ", "System.out", "System.err", "System.exit", "currentTime", "nanoTime", "random",
@@ -70,17 +23,33 @@ public final class FaceTest {
         "java.util.List", "java.util.Arrays", "java.util.Iterator");
 
     private static final int LONGEST_METHOD = 60;
+    private static final int MOST_PARAMETERS = 7;
+    private static final int MOST_FIELDS = 20;
+    private static final int MOST_CLASSES = 12;
+
+    private static final Set<String> FACE = new TreeSet<>();
 
     public static void main(String[] args) throws IOException {
+        readTheFace();
         theFace();
         nothingElseToBeSeen();
         namesOfItsOwn();
+        fewOfAll();
         theSource();
         Script.finish("FaceTest");
     }
 
+    /** As the document writes it, without the names of parameters. */
+    private static void readTheFace() throws IOException {
+        for (String line : Files.readAllLines(Path.of("../shared/DOC.md"))) {
+            if (line.matches(" {4}public .*\\).*;")) {
+                FACE.add(line.trim().replace(";", "").replaceAll("((?!throws)\\b[a-z]+) \\w+([,)])", "$1$2"));
+            }
+        }
+        Script.due("face", "has the document the constructor", "" + FACE.remove("public Cryway()"), "true");
+    }
+
     private static void theFace() {
-        Set<String> due = new TreeSet<>(List.of(FACE));
         Set<String> got = new TreeSet<>();
         for (Method method : Cryway.class.getDeclaredMethods()) {
             if (Modifier.isPublic(method.getModifiers())) {
@@ -88,7 +57,7 @@ public final class FaceTest {
                 got.add(text.replace(",", ", "));
             }
         }
-        Script.due("face", "public methods", got.toString(), due.toString());
+        Script.due("face", "public methods", got.toString(), FACE.toString());
         Script.due("face", "the class", Modifier.toString(Cryway.class.getModifiers()), "public final");
         Script.due("face", "its superclass", Cryway.class.getSuperclass().getName(), "java.lang.Object");
         Script.due("face", "its interfaces", "" + Cryway.class.getInterfaces().length, "0");
@@ -119,12 +88,31 @@ public final class FaceTest {
         for (String line : FACE) {
             names.add(line.substring(line.lastIndexOf(' ', line.indexOf('(')) + 1, line.indexOf('(')));
         }
-        List<Class<?>> all = new ArrayList<>(List.of(Cryway.class.getDeclaredClasses()));
-        all.add(Cryway.class);
-        for (Class<?> each : all) {
+        for (Class<?> each : allClasses()) {
             for (Method method : each.getDeclaredMethods()) {
                 boolean taken = !Modifier.isPublic(method.getModifiers()) && names.contains(method.getName());
                 Script.due("rule 1", "the name of a public one: " + method, "" + taken, "false");
+            }
+        }
+    }
+
+    private static List<Class<?>> allClasses() {
+        List<Class<?>> all = new ArrayList<>(List.of(Cryway.class.getDeclaredClasses()));
+        all.add(Cryway.class);
+        return all;
+    }
+
+    private static void fewOfAll() {
+        Script.due("rule 11", "few classes", "" + (allClasses().size() <= MOST_CLASSES), "true");
+        for (Class<?> each : allClasses()) {
+            int fields = 0;
+            for (Field field : each.getDeclaredFields()) {
+                fields += Modifier.isStatic(field.getModifiers()) ? 0 : 1;
+            }
+            Script.due("rule 11", "few fields: " + each, "" + (fields <= MOST_FIELDS), "true");
+            for (Method method : each.getDeclaredMethods()) {
+                boolean few = method.getParameterCount() <= MOST_PARAMETERS;
+                Script.due("rule 11", "few parameters: " + method, "" + few, "true");
             }
         }
     }
